@@ -836,6 +836,7 @@ public final class HoopCabinet {
         if (!isSeed(seed) || !now.hasLady(first) || !isPart(what)) {
             return NO_SUCH;
         }
+        passAsTold();
         int loud = loudDances(seed);
         return what == 0 ? loud : drawnHolders(loud, first);
     }
@@ -844,6 +845,7 @@ public final class HoopCabinet {
         if (!isSeed(seed) || n < 1 || n > MOST_DRAWN || !now.hasLady(first) || !now.hasLady(lady)) {
             return NO_SUCH;
         }
+        passAsTold();
         int found = 0;
         for (int i = 0; i < n; i++) {
             if (hasBit(drawnHolders(loudDances(seed + i), first), lady)) {
@@ -854,7 +856,6 @@ public final class HoopCabinet {
     }
 
     private int drawnHolders(int loud, int first) {
-        passAsTold();
         notes.follow(floor, first, loud);
         return notes.behind(now.dances);
     }
@@ -1333,7 +1334,9 @@ public final class HoopCabinet {
             takeWord("wide");
             int wide = takeNumber(1, WIDEST);
             takeSign();
-            finishRow(ball.doors, room, other, wide);
+            if (fault == 0) {
+                ball.doors.add(room, other, wide, 0);
+            }
         }
 
         private void readLady() {
@@ -1343,7 +1346,9 @@ public final class HoopCabinet {
             takeWord("wide");
             int wide = takeNumber(1, WIDEST);
             takeSign();
-            finishRow(ball.ladies, room, wide, 0);
+            if (fault == 0) {
+                ball.ladies.add(room, wide, 0, 0);
+            }
         }
 
         private void readMinister() {
@@ -1353,7 +1358,9 @@ public final class HoopCabinet {
             takeWord("seats");
             int seats = takeNumber(1, 20);
             takeSign();
-            finishRow(ball.ministers, lady, seats, 0);
+            if (fault == 0) {
+                ball.ministers.add(lady, seats, 0, 0);
+            }
         }
 
         private void readBid() {
@@ -1364,7 +1371,9 @@ public final class HoopCabinet {
             takeWord("at");
             int dance = takeNumber(0, LAST_BID);
             takeSign();
-            finishRow(ball.bids, lady, room, dance);
+            if (fault == 0) {
+                ball.bids.add(lady, room, dance, 0);
+            }
         }
 
         /** The line's own word has been looked at already. */
@@ -1373,12 +1382,6 @@ public final class HoopCabinet {
                 fail(TOO_MANY);
             }
             nextToken();
-        }
-
-        private void finishRow(Table table, int a, int b, int c) {
-            if (fault == 0) {
-                table.add(a, b, c, 0);
-            }
         }
 
         /** The first fault stays: what stands behind it is not judged. */
