@@ -52,9 +52,9 @@ public final class HoopCabinet {
     public HoopCabinet() {
         tape = new byte[TAPE_LIMIT];
         tapeLength = 0;
-        reader = new Reader();
         now = new Ball();
         draft = new Ball();
+        reader = new Reader(tape, draft);
         images = new Ball[IMAGES];
         kept = new boolean[IMAGES];
         for (int k = 0; k < IMAGES; k++) {
@@ -105,7 +105,7 @@ public final class HoopCabinet {
     }
 
     public int ball() {
-        reader.read(tape, tapeLength, draft);
+        reader.read(tapeLength);
         if (reader.fault != 0) {
             return FAULTY;
         }
@@ -1261,28 +1261,24 @@ public final class HoopCabinet {
         /** Above every bound of the text, so that a longer number needs no more. */
         private static final int HUGE = 1000000;
 
-        private byte[] tape;
+        private final byte[] tape;
+        private final Ball ball;
         private int length;
-        private Ball ball;
         private int kind;
         private int place;
         private int stop;
         private int fault;
         private int faultPlace;
 
-        Reader() {
-            tape = new byte[0];
-            ball = null;
+        Reader(byte[] text, Ball draft) {
+            tape = text;
+            ball = draft;
             faultPlace = NONE;
         }
 
-        void read(byte[] text, int size, Ball draft) {
-            if (text == null || draft == null) {
-                return;
-            }
-            tape = text;
-            length = Math.max(0, Math.min(size, text.length));
-            ball = draft;
+        /** So many bytes of the tape are the text; with a fault the draft is of no use. */
+        void read(int size) {
+            length = Math.max(0, Math.min(size, tape.length));
             ball.clear();
             fault = 0;
             faultPlace = NONE;
