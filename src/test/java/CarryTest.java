@@ -77,6 +77,8 @@ public final class CarryTest {
         Check.due("bars(3, 0, 0)", x.bars(3, 0, 0), -2);
         HoopCabinet y = Check.told("ball rooms 3 dances 2 law 0 odds 0;door 0 to 1 wide 1;lady in 0 wide 4;lady in 1 wide 9;bid 0 to 1 at 0;");
         Check.due("widen so that she comes through", y.widen(0, 0), 4);
+        HoopCabinet widest = Check.told("ball rooms 2 dances 2 law 0 odds 0;door 1 to 0 wide 1;lady in 0 wide 9;lady in 1 wide 1;bid 0 to 1 at 0;");
+        Check.due("widen for the widest", widest.widen(1, 0), 9);
         Check.due("bars to a room without doors", y.bars(0, 0, 2), -1);
         Check.due("bars of the widest", y.bars(1, 0, 1), 9);
     }

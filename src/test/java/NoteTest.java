@@ -143,10 +143,26 @@ public final class NoteTest {
         Check.row(y, 0, 0);
         Check.due("two are alike", y.leaves(0), 2);
         Check.due("ask the first of several", y.ask(0), 0);
+        latest();
         Check.row(y, 0, 0, 1, 1, 1);
         Check.due("two who can't be told apart", y.firsts(0), 6);
         Check.due("ask nobody", y.ask(0), -1);
         Check.due("as now", y.leaves(0), 2);
+    }
+
+    /** She comes at the last dance that there can be, 14. */
+    private static void latest() {
+        HoopCabinet x = Check.told("ball rooms 2 dances 14 law 0 odds 0;door 0 to 1 wide 1;lady in 0 wide 1;lady in 1 wide 1;bid 0 to 1 at 13;");
+        Check.due("gets(0, 1)", x.gets(0, 1), 14);
+        Check.due("have(0, 13)", x.have(0, 13), 1);
+        Check.due("have(0, 15)", x.have(0, 15), -2);
+        Check.due("carry(0, 0, 1)", x.carry(0, 0, 1), 1);
+        Check.row(x, 0, 0, 1, 14, 1, 1, 13, 0);
+        Check.due("firsts", x.firsts(0), 1);
+        Check.row(x, 0, 0, 1, 14, 1);
+        Check.due("firsts", x.firsts(0), 3);
+        Check.due("ask", x.ask(0), 0);
+        Check.due("leaves", x.leaves(0), 1);
     }
 
     private static void seenWrong() {

@@ -141,6 +141,13 @@ public final class TextTest {
         faulty(2, HEAD + "lady in 0 wide 1;bid 0 to 2 at ^14;");
         faulty(1, HEAD + "lady in 0 wide 1;bid ^to");
         faulty(1, HEAD + "lady in 0 wide 1;^bids 0 to 2 at 1;");
+        faulty(1, HEAD + "^ladyz in 0 wide 1;");
+        faulty(1, HEAD + "^zlady in 0 wide 1;");
+        faulty(1, HEAD + "lady^{in 0 wide 1;");
+        faulty(1, HEAD + "lady^`in 0 wide 1;");
+        faulty(1, HEAD + "lady in 0 wide 1^:");
+        faulty(1, HEAD + "lady in 0 wide 1^/");
+        faulty(1, HEAD + "lady in 0 wide 1\n^\r;");
         faulty(1, HEAD + "^\u00e9");
         faulty(1, HEAD + "^\0");
         faulty(3, HEAD + "door 0 to 1 wide 1;".repeat(12) + "^door 0 to 0 wide 1;");
