@@ -4,8 +4,8 @@ import java.util.function.Supplier;
 
 /**
  * "-2: there are none such" and its like, of every promise that takes numbers: each number at the least and the greatest
- * that is taken, and one beyond either (and far beyond); a refused call leaves all as it was. The balls are the fullest
- * one, the smallest one, one with nobody in it, and none.
+ * that is taken, and one beyond either (and far beyond); a refused call leaves all as it was, and what is taken does not
+ * depend on what was asked ahead of it. The balls are the fullest one, the smallest one, one with nobody in it, and none.
  */
 public final class BoundsTest {
     private interface Ask {
@@ -101,6 +101,8 @@ public final class BoundsTest {
         ask("16 meets", (x, a) -> x.meets(a[0], a[1]), Kind.LADY, Kind.LADY);
         ask("17 often", (x, a) -> x.often(a[0], a[1]), Kind.LADY, Kind.LADY);
         ask("18 friends", (x, a) -> x.friends(a[0]), Kind.LADY);
+        ask("19 crush", (x, a) -> x.crush());
+        ask("20 crushed", (x, a) -> x.crushed());
         ask("21 likes", (x, a) -> x.likes(a[0]), Kind.LADY);
         ask("22 apart", (x, a) -> x.apart(a[0], a[1], a[2]), Kind.LADY, Kind.LADY, Kind.DANCE);
         ask("23 alone", (x, a) -> x.alone(a[0]), Kind.DANCE);
@@ -117,6 +119,7 @@ public final class BoundsTest {
         ask("34 gets", (x, a) -> x.gets(a[0], a[1]), Kind.LADY, Kind.LADY);
         ask("35 from", (x, a) -> x.from(a[0], a[1]), Kind.LADY, Kind.LADY);
         ask("36 all", (x, a) -> x.all(a[0]), Kind.LADY);
+        ask("37 best", (x, a) -> x.best());
         ask("38 lasts", (x, a) -> x.lasts(a[0]), Kind.LADY);
         ask("39 needed", (x, a) -> x.needed(a[0]), Kind.LADY);
         ask("40 by", (x, a) -> x.by(a[0], a[1]), Kind.LADY, Kind.LAW);
@@ -128,6 +131,11 @@ public final class BoundsTest {
     }
 
     private void askHouse() {
+        ask("30 dummies", (x, a) -> x.dummies());
+        ask("32 strongest", (x, a) -> x.strongest());
+        ask("54 cabinet", (x, a) -> x.cabinet());
+        ask("55 cabinets", (x, a) -> x.cabinets());
+        ask("56 kingmaker", (x, a) -> x.kingmaker());
         ask("31 blocks", (x, a) -> x.blocks(a[0]), Kind.SET);
         ask("49 seats", (x, a) -> x.seats(a[0]), Kind.LADY);
         ask("50 under", (x, a) -> x.under(a[0]), Kind.LADY);
@@ -146,6 +154,8 @@ public final class BoundsTest {
     private void askActs() {
         ask("61 bid", (x, a) -> x.bid(a[0], a[1], a[2]), Kind.LADY, Kind.ROOM, Kind.AT);
         ask("62 move", (x, a) -> x.move(a[0], a[1]), Kind.MINISTER, Kind.LADY);
+        ask("63 undo", (x, a) -> x.undo());
+        ask("64 anew", (x, a) -> x.anew());
         ask("67 hang", (x, a) -> x.hang(a[0], a[1]), Kind.DOOR, Kind.WIDE);
         ask("69 image", (x, a) -> x.image(a[0]), Kind.IMAGE);
         ask("70 back", (x, a) -> x.back(a[0]), Kind.IMAGE);
@@ -172,7 +182,8 @@ public final class BoundsTest {
     private void askTaken(String call, Ask ask, Kind... kinds) {
         for (int ends = 0; ends < 1 << kinds.length; ends++) {
             int[] a = new int[kinds.length];
-            boolean some = true;
+            // what takes no numbers asks for a ball alone
+            boolean some = kinds.length > 0 || high(Kind.DANCE) >= 0;
             for (int k = 0; k < kinds.length; k++) {
                 int high = high(kinds[k]);
                 some &= high >= kinds[k].low && !(kinds[k] == Kind.OTHER && high == 0);
@@ -181,8 +192,37 @@ public final class BoundsTest {
             int other = List.of(kinds).indexOf(Kind.OTHER);
             boolean twice = other > 0 && a[other] == a[other - 1];
             String told = told(call, a) + " is " + (some && !twice ? "refused" : "taken");
-            Check.due(told, ask.on(start.get(), a) == -2 ? 1 : 0, some && !twice ? 0 : 1);
+            long answer = ask.on(start.get(), a);
+            Check.due(told, answer == -2 ? 1 : 0, some && !twice ? 0 : 1);
+            Check.due(told(call, a) + " of one who was asked much", ask.on(stirred(start.get()), a), answer);
         }
+    }
+
+    /** Asked for all that works on rows of its own, by other ladies, laws and dances than those at the ends. */
+    private static HoopCabinet stirred(HoopCabinet x) {
+        for (int i = 0; i < 4; i++) {
+            x.have(2, i);
+            x.hears(3);
+            x.needed(1);
+            x.carry(i, 2, 4);
+            x.walk(i, 2, 4, 3);
+            x.widen(2, i);
+            x.shut(3, i);
+            x.bars(3, i, 4);
+            x.firsts(i);
+            x.ask(i);
+            x.leaves(i);
+            x.part(i, 0);
+            x.kingmaker();
+            x.rests(i, 4);
+            x.gains(i, 4, 1, 1);
+            x.chance(1, 2, i, 0);
+            x.mean(2, i, 1);
+            x.luck(i, 3, 1, 2);
+            x.drawn(i, 3, 1);
+            x.by(2, i);
+        }
+        return x;
     }
 
     private void askRefused(String call, Ask ask, Kind[] kinds, int k, int beyond) {

@@ -107,6 +107,7 @@ public final class FloorEdgeTest {
             Check.due("12: at the last dance", x.at(0, dances), goes);
             Check.due("12: one ahead of it", x.at(0, dances - 1), 0);
             Check.due("14: doors", x.steps(0), goes);
+            Check.due("15: rooms, the one of the last dance, too", x.sees(0), goes == 1 ? 3 : 1);
             Check.due("25: the last dance elsewhere", x.late(0), goes == 1 ? 14 : -1);
             Check.due("26: nothing to wait for", x.waits(0), 0);
         }
@@ -201,6 +202,9 @@ public final class FloorEdgeTest {
         Check.due("18: five others", six.friends(5), 31);
         Check.due("23: nobody is alone", six.alone(1), 0);
         Check.due("24: no room is empty", six.empty(1), 0);
+        HoopCabinet once = Check.told("ball rooms 2 dances 2 law 0 odds 0;door 0 to 1 wide 1;lady in 0 wide 1;lady in 0 wide 1;lady in 0 wide 1;bid 0 to 1 at 0;");
+        Check.due("19: at dance 0 alone", once.crush(), 3);
+        Check.due("20: at dance 0 alone", once.crushed(), 0);
         // two and two, then three: the first dance of three, not of two
         HoopCabinet later = Check.told("ball rooms 2 dances 3 law 0 odds 0;door 0 to 1 wide 1;lady in 0 wide 1;lady in 0 wide 1;lady in 1 wide 1;lady in 1 wide 1;bid 3 to 0 at 1;");
         Check.due("19: three", later.crush(), 3);
@@ -215,6 +219,10 @@ public final class FloorEdgeTest {
         HoopCabinet y = Check.told("ball rooms 8 dances 2 law 0 odds 0;door 7 to 6 wide 1;lady in 7 wide 1;bid 0 to 6 at 1;");
         Check.due("21: two and one", y.likes(0), 7);
         Check.due("25: the last dance", y.late(0), 2);
+        HoopCabinet even = Check.told("ball rooms 8 dances 1 law 0 odds 0;door 7 to 6 wide 1;lady in 7 wide 1;bid 0 to 6 at 0;");
+        Check.due("21: one and one", even.likes(0), 6);
+        HoopCabinet home = Check.told("ball rooms 2 dances 3 law 0 odds 0;door 0 to 1 wide 1;" + LADY + "bid 0 to 1 at 2;");
+        Check.due("21: the first room, more often", home.likes(0), 0);
         HoopCabinet z = Check.told("ball rooms 2 dances 2 law 0 odds 0;door 0 to 1 wide 1;" + LADY + "bid 0 to 1 at 0;");
         Check.due("25: the first dance that there can be", z.late(0), 1);
     }
@@ -249,7 +257,10 @@ public final class FloorEdgeTest {
         Check.due("20: at once", apart.crushed(), 0);
     }
 
+    /** Those that take no numbers. */
     private static void nobody() {
+        Check.due("19: there is no BALL", new HoopCabinet().crush(), -2);
+        Check.due("20: there is no BALL", new HoopCabinet().crushed(), -2);
         HoopCabinet x = Check.told("ball rooms 8 dances 14 law 0 odds 0;");
         Check.due("13: nobody", x.within(7, 14), 0);
         Check.due("19: nobody", x.crush(), 0);

@@ -8,6 +8,7 @@ public final class HouseEdgeTest {
     public static void main(String[] args) {
         half();
         noMinisters();
+        noBall();
         nobody();
         oneHasAll();
         equals();
@@ -77,6 +78,16 @@ public final class HouseEdgeTest {
         Check.due("56: none", x.kingmaker(), -1);
     }
 
+    private static void noBall() {
+        HoopCabinet x = new HoopCabinet();
+        Check.due("30: there is no BALL", x.dummies(), -2);
+        Check.due("32: there is no BALL", x.strongest(), -2);
+        Check.due("37: there is no BALL", x.best(), -2);
+        Check.due("54: there is no BALL", x.cabinet(), -2);
+        Check.due("55: there is no BALL", x.cabinets(), -2);
+        Check.due("56: there is no BALL", x.kingmaker(), -2);
+    }
+
     private static void nobody() {
         HoopCabinet x = Check.told(HEAD);
         Check.due("51: the set of nobody", x.holds(0), 0);
@@ -137,6 +148,10 @@ public final class HouseEdgeTest {
         HoopCabinet last = house(1, 1, 1, 2, 2);
         Check.due("54: fewest ahead of least", last.cabinet(), 24);
         Check.due("32: the first of two", last.strongest(), 3);
+        HoopCabinet alone = house(3);
+        Check.due("32: above 0, if by one", alone.strongest(), 0);
+        Check.due("52: by one", alone.power(0), 1);
+        Check.due("54: by one", alone.cabinet(), 1);
         HoopCabinet two = house(1, 1, 2, 3);
         Check.due("54: two, the least of them", two.cabinet(), 9);
         HoopCabinet all = house(1, 1);
@@ -189,6 +204,7 @@ public final class HouseEdgeTest {
         HoopCabinet first = Check.told(HEAD + "lady in 0 wide 1;lady in 0 wide 1;lady in 0 wide 1;minister under 0 seats 1;minister under 0 seats 2;minister under 1 seats 2;minister under 2 seats 2;");
         Check.due("56: the first who brings enough", first.kingmaker(), 1);
         Check.due("56: any other lady", house(1, 0).kingmaker(), 0);
+        Check.due("56: she holds behind the move, whoever held ahead of it", house(1, 6, 1).kingmaker(), 0);
     }
 
     // ---- two who stay or go ----
@@ -328,12 +344,15 @@ public final class HouseEdgeTest {
         for (int seed : new int[] {0, 1, 65535, 65536, 1999999999, 2000000000}) {
             Check.due("65: seed " + seed, x.drawn(seed, 0, 0), loudBy(seed));
         }
-        int lucky = 0;
-        for (int i = 0; i < 20; i++) {
-            // both are in one room: she has it unless all is too loud
-            lucky += loudBy(2000000000L + i) == 32767 ? 0 : 1;
+        // they are in one room at dance 0 alone: she has it if that is not too loud
+        HoopCabinet once = Check.told("ball rooms 2 dances 14 law 0 odds 5;door 0 to 1 wide 1;lady in 0 wide 1;lady in 0 wide 1;bid 0 to 1 at 0;");
+        for (int first : new int[] {0, 100, 65530, 2000000000}) {
+            int lucky = 0;
+            for (int n = 1; n <= 20; n++) {
+                lucky += 1 - (loudBy(first + n - 1L) & 1);
+                Check.due("66: " + n + " from seed " + first, once.luck(first, n, 0, 1), lucky);
+            }
         }
-        Check.due("66: twenty from the last seed", x.luck(2000000000, 20, 0, 1), lucky);
         for (int n : new int[] {0, 21, -1, Integer.MIN_VALUE, Integer.MAX_VALUE}) {
             Check.due("66: n is " + n, x.luck(0, n, 0, 1), -2);
         }

@@ -1,7 +1,10 @@
 import java.math.BigInteger;
 import java.util.ArrayList;
+import java.util.HashSet;
 import java.util.List;
+import java.util.Set;
 import java.util.TreeSet;
+import java.util.function.Predicate;
 import java.util.regex.Matcher;
 import java.util.regex.Pattern;
 
@@ -248,40 +251,44 @@ final class Model {
         for (int last = 0; last <= dances; last++) {
             int[] walk = new int[last + 1];
             walk[0] = ladies.get(lady)[0];
-            if (tryWalk(walk, 1, first, lady, other, where, got)) {
+            Predicate<Integer> gives = dance -> where[other][dance] == walk[dance];
+            Predicate<Integer> takes = dance -> {
+                for (int giver = 0; giver < where.length; giver++) {
+                    boolean has = giver == first || got[giver][0] >= 0 && got[giver][0] < dance;
+                    if (giver != lady && has && where[giver][dance] == walk[dance]) {
+                        return true;
+                    }
+                }
+                return false;
+            };
+            if (tryWalk(lady, walk, 0, lady == first, takes, gives, new HashSet<>())) {
                 return walk;
             }
         }
         return null;
     }
 
-    private boolean tryWalk(int[] walk, int n, int first, int lady, int other, int[][] where, int[][] got) {
-        if (n == walk.length) {
-            return gives(walk, first, lady, other, where, got);
+    /** The walk is told up to a dance; had: she has the note from an earlier one. What failed once is not tried again. */
+    private boolean tryWalk(int lady, int[] walk, int dance, boolean had, Predicate<Integer> takes, Predicate<Integer> gives,
+            Set<List<Object>> failed) {
+        if (dance == walk.length - 1) {
+            return had && gives.test(dance);
         }
+        List<Object> state = List.of(dance, walk[dance], had);
+        if (failed.contains(state)) {
+            return false;
+        }
+        boolean has = had || takes.test(dance);
         for (int room = 0; room < rooms; room++) {
-            if (room == walk[n - 1] || joined(lady, walk[n - 1], room)) {
-                walk[n] = room;
-                if (tryWalk(walk, n + 1, first, lady, other, where, got)) {
+            if (room == walk[dance] || joined(lady, walk[dance], room)) {
+                walk[dance + 1] = room;
+                if (tryWalk(lady, walk, dance + 1, has, takes, gives, failed)) {
                     return true;
                 }
             }
         }
+        failed.add(state);
         return false;
-    }
-
-    private boolean gives(int[] walk, int first, int lady, int other, int[][] where, int[][] got) {
-        int last = walk.length - 1;
-        int since = lady == first ? -1 : 1000;
-        for (int dance = 0; dance < last && lady != first; dance++) {
-            for (int giver = 0; giver < where.length; giver++) {
-                boolean has = giver == first || got[giver][0] >= 0 && got[giver][0] < dance;
-                if (giver != lady && has && where[giver][dance] == walk[dance]) {
-                    since = Math.min(since, dance);
-                }
-            }
-        }
-        return since < last && where[other][last] == walk[last];
     }
 
     // ---- the house ----

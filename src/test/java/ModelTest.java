@@ -21,7 +21,11 @@ public final class ModelTest {
             new ModelTest(i).askText();
         }
         for (int i = 0; i < BALLS; i++) {
-            new ModelTest(1000000 + i).askBall();
+            ModelTest one = new ModelTest(1000000 + i);
+            one.askBall(one.ballText(one.below(4) == 0 ? 14 : 6));
+        }
+        for (String text : List.of(Balls.FULL, Balls.LONG, Balls.SMALL, Balls.BARE, Balls.ROW, Balls.STAR)) {
+            new ModelTest(2000000).askBall(text);
         }
         Check.finish("ModelTest");
     }
@@ -110,8 +114,7 @@ public final class ModelTest {
 
     // ---- balls, with acts ----
 
-    private void askBall() {
-        String text = ballText(below(4) == 0 ? 14 : 6);
+    private void askBall(String text) {
         m = Model.read(text);
         Check.tape(x, text);
         Check.due("ball()", x.ball(), m.lines);
@@ -166,7 +169,7 @@ public final class ModelTest {
         askHouse();
         askSeen();
         askChances();
-        if (m.dances <= 6) {
+        for (int i = 0; i < 5; i++) {
             askCarry();
         }
     }

@@ -9,6 +9,8 @@ public final class NoteEdgeTest {
         chain();
         chainTooShort();
         firstDance();
+        lastOnes();
+        fourteen();
         lawOne();
         lawTwo();
         lawThree();
@@ -21,6 +23,8 @@ public final class NoteEdgeTest {
         carryLast();
         carryBack();
         carryWithoutHer();
+        carryFromHelper();
+        carryAsSheLikes();
         walkLeast();
         widen();
         shut();
@@ -99,6 +103,10 @@ public final class NoteEdgeTest {
         Check.due("35: the least of several", y.from(2, 1), 0);
         Check.due("29: through two hands", y.hands(2, 1), 2);
         Check.due("35: the FIRST if least", y.from(0, 1), 0);
+        // ladies 0 and 1 come together: 0 has it just then, so that 2 gives it to both
+        HoopCabinet z = Check.told("ball rooms 2 dances 1 law 0 odds 0;door 0 to 1 wide 1;lady in 0 wide 1;lady in 0 wide 1;lady in 1 wide 1;bid 0 to 1 at 0;bid 1 to 1 at 0;");
+        Check.due("35: not from one who gets it then", z.from(2, 1), 2);
+        Check.due("29: one hand", z.hands(2, 1), 1);
     }
 
     private static HoopCabinet oneRoom(int law, String rest) {
@@ -206,6 +214,36 @@ public final class NoteEdgeTest {
         Check.due("39: a dance later the FIRST does", x.needed(0), 0);
         Check.due("39: the FIRST is not named", x.needed(1), 0);
         Check.due("39: who has it from nobody needs nobody", x.needed(2), 0);
+        HoopCabinet first = Check.told("ball rooms 2 dances 2 law 0 odds 0;door 0 to 1 wide 1;"
+            + "lady in 0 wide 1;lady in 0 wide 1;lady in 1 wide 1;bid 0 to 1 at 0;");
+        Check.due("39: the first lady, from another FIRST", first.needed(1), 1);
+    }
+
+    /** Lady 0 is come to at the last dance, after lady 1. */
+    private static void lastOnes() {
+        HoopCabinet x = Check.told("ball rooms 2 dances 3 law 0 odds 0;door 0 to 1 wide 1;lady in 1 wide 1;lady in 0 wide 1;lady in 0 wide 1;bid 2 to 1 at 2;");
+        Check.due("38: the first lady is the last to get it", x.lasts(2), 3);
+        Check.due("38: by another one's hands", x.lasts(1), 3);
+        Check.due("36: all", x.all(2), 3);
+        Check.due("33: a dance ahead", x.have(2, 2), 6);
+        Check.due("38: from the one who is come to", x.lasts(0), 3);
+    }
+
+    /** At the last dance that there can be. */
+    private static void fourteen() {
+        HoopCabinet x = Check.told("ball rooms 2 dances 14 law 0 odds 0;door 0 to 1 wide 1;lady in 0 wide 1;lady in 1 wide 1;bid 0 to 1 at 13;");
+        Check.due("34: at 14", x.gets(0, 1), 14);
+        Check.due("33: behind 13", x.have(0, 13), 1);
+        Check.due("33: behind 14", x.have(0, 14), 3);
+        Check.due("33: behind 15", x.have(0, 15), -2);
+        Check.due("36: behind 14", x.all(1), 14);
+        Check.due("38: at 14", x.lasts(1), 14);
+        Check.row(x, 0, 0, 1, 14, 1);
+        seenAll("seen at 14", x, 0, 3, 0, 1);
+        Check.row(x, 0, 0, 1, 13, 1);
+        seenAll("seen at 13", x, 0, 2, -1, 1);
+        Check.row(x, 0, 0, 1, 15, 1);
+        seenAll("seen at 15", x, 0, -2, -2, -2);
     }
 
     // ---- carry and walk ----
@@ -273,6 +311,35 @@ public final class NoteEdgeTest {
         // lady 3 could take it from 2, who has it from 1: at dance 2, in room 2; or she goes to meet 1, who has it from dance 1
         Check.due("41: from any who has it from an earlier dance", x.carry(0, 3, 5), 5);
         Check.due("41: as it passes without her: 2 has it not without 1", x.carry(0, 1, 2), 2);
+    }
+
+    /** Lady 1 has it from dance 0 and comes to room 1, where lady 2 takes it at dance 1, and gives it to 3 at dance 2. */
+    private static void carryFromHelper() {
+        String rest = "door 0 to 1 wide 1;lady in 0 wide 1;lady in 0 wide 1;lady in 1 wide 2;lady in 1 wide 1;bid 1 to 1 at 0;";
+        HoopCabinet x = Check.told("ball rooms 2 dances 2 law 0 odds 0;" + rest);
+        Check.due("41: from one who has it from dance 0", x.carry(0, 2, 3), 2);
+        walked("she waits", x, 0, 2, 3, 1, 1, 1);
+        HoopCabinet y = Check.told("ball rooms 2 dances 2 law 1 odds 0;" + rest);
+        Check.due("41: by law 1 the other one has it not", y.carry(0, 2, 3), -1);
+    }
+
+    /** Bidden away she stays, if she likes: from where she was told, not from where she would be. */
+    private static void carryAsSheLikes() {
+        HoopCabinet x = Check.told("ball rooms 3 dances 2 law 0 odds 0;door 1 to 0 wide 1;door 1 to 2 wide 1;"
+            + "lady in 1 wide 1;lady in 1 wide 1;lady in 1 wide 1;bid 0 to 0 at 0;bid 1 to 2 at 0;");
+        Check.due("41: the FIRST meets her at once", x.carry(0, 0, 1), 0);
+        walked("at once, in room 1", x, 0, 0, 1, 1, 1, 1);
+        Check.due("41: from the FIRST, to one who stays", x.carry(0, 1, 2), 1);
+        walked("she stays, too", x, 0, 1, 2, 1, 1, 1);
+        Check.due("41: after her who goes", x.carry(2, 0, 1), 1);
+        walked("goes with her", x, 2, 0, 1, 1, 2, 2);
+        HoopCabinet apart = Check.told("ball rooms 3 dances 2 law 0 odds 0;door 1 to 0 wide 1;door 1 to 2 wide 1;"
+            + "lady in 1 wide 1;lady in 0 wide 1;lady in 2 wide 1;bid 0 to 0 at 0;bid 1 to 1 at 0;");
+        // told in 1 and 0: they would pass each other, so that she stays and is met
+        Check.due("41: she is met where she stays", apart.carry(0, 0, 1), 1);
+        walked("stays", apart, 0, 0, 1, 1, 1, 1);
+        Check.due("41: one who has it comes to her", apart.carry(1, 0, 2), 2);
+        walked("stays, then goes", apart, 1, 0, 2, 1, 1, 2);
     }
 
     /** The least row of rooms, not the shortest way first: she may wait in a lesser room. */
@@ -389,6 +456,11 @@ public final class NoteEdgeTest {
         seenAll("had it at dance 0: she was FIRST", seen(0, 2, 0, 1), 2, 4, -1, 1);
         seenAll("had it just then", seen(0, 1, 3, 1), 2, 3, 0, 1);
         seenAll("had it a dance ahead", seen(0, 1, 2, 1), 2, 2, -1, 1);
+        HoopCabinet atOnce = Check.told(Balls.STAR);
+        Check.row(atOnce, 0, 0, 2, 0, 1);
+        seenAll("got it at dance 0", atOnce, 0, 6, -1, 2);
+        Check.row(atOnce, 0, 0, 2, 0, 0);
+        seenAll("had it not at dance 0", atOnce, 0, 9, 0, 1);
         seenAll("had it and had it not", seen(0, 1, 3, 1, 1, 3, 0), 2, 0, -1, 0);
     }
 

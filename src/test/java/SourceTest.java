@@ -23,6 +23,7 @@ public final class SourceTest {
         String text = Files.readString(SOURCE);
         words(bare(text));
         lengths(text);
+        edges();
         Check.finish("SourceTest");
     }
 
@@ -128,6 +129,21 @@ public final class SourceTest {
                 Check.right("a long method: " + lines[i], end - i <= 60);
             }
             Check.right("a long line: " + (i + 1), lines[i].length() <= 130);
+        }
+    }
+
+    /** Every promise is named, by its number, in a test of boundary cases. */
+    private static void edges() throws IOException {
+        Set<Integer> named = new TreeSet<>();
+        for (String name : List.of("Bounds", "TextEdge", "FloorEdge", "NoteEdge", "HouseEdge", "ActEdge", "SlotEdge")) {
+            String text = Files.readString(Path.of("src/test/java", name + "Test.java"));
+            Matcher label = Pattern.compile("\\(\"([0-9]+)(:| \\w+\")").matcher(text);
+            while (label.find()) {
+                named.add(Integer.parseInt(label.group(1)));
+            }
+        }
+        for (int promise = 1; promise <= 73; promise++) {
+            Check.right("promise " + promise + " has no boundary case of its own", named.contains(promise));
         }
     }
 }

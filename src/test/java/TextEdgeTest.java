@@ -26,6 +26,7 @@ public final class TextEdgeTest {
         bytes();
         longestTokens();
         cutOff();
+        words();
         leastFault();
         count();
         calls();
@@ -123,7 +124,9 @@ public final class TextEdgeTest {
             HoopCabinet x = busyWith(text);
             Check.due("4: no LINES", x.ball(), 0);
             Check.due("4: there is none then", x.crush(), -2);
-            Check.due("4: no rooms then", x.count(0), 0);
+            for (int what = 0; what <= 10; what++) {
+                Check.due("4: count(" + what + ") of none", x.count(what), 0);
+            }
             Check.due("4: no ladies then", x.lady(0, 0), -2);
             Check.due("4: no acts then", x.count(8), 0);
             Check.due("4: nothing to undo then", x.undo(), -2);
@@ -432,6 +435,32 @@ public final class TextEdgeTest {
             // another kind of token than the one that is due
             faulty(1, text + " ^" + (tokens[k + 1].matches("[0-9]+") ? "x" : "1"));
             faulty(1, text + " ^" + (tokens[k + 1].equals(";") ? "x" : ";"));
+        }
+    }
+
+    /** Each word of each line with each of its letters another one, one less, one more: it can't stand there. */
+    private static void words() {
+        spoilt("", HEAD.replace(";", " ;"));
+        for (String line : List.of("door 0 to 1 wide 1 ;", "lady in 0 wide 1 ;", "minister under 0 seats 1 ;", "bid 0 to 0 at 0 ;")) {
+            spoilt(LADY, line);
+        }
+    }
+
+    private static void spoilt(String ahead, String line) {
+        String[] tokens = line.split(" ");
+        for (int k = 0; k < tokens.length; k++) {
+            for (int i = 0; i < tokens[k].length() && tokens[k].matches("[a-z]+"); i++) {
+                String start = ahead + String.join(" ", List.of(tokens).subList(0, k)) + (k == 0 ? "" : " ") + "^";
+                String end = " " + String.join(" ", List.of(tokens).subList(k + 1, tokens.length));
+                String left = tokens[k].substring(0, i);
+                String right = tokens[k].substring(i + 1);
+                char sign = tokens[k].charAt(i);
+                faulty(1, start + left + (char) (sign == 'z' ? 'a' : sign + 1) + right + end);
+                faulty(1, start + left + (char) (sign == 'a' ? 'z' : sign - 1) + right + end);
+                faulty(1, start + left + right + end);
+                faulty(1, start + left + sign + sign + right + end);
+                faulty(1, start + left + Character.toUpperCase(sign) + right + end);
+            }
         }
     }
 
