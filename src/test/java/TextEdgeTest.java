@@ -145,6 +145,10 @@ public final class TextEdgeTest {
         HoopCabinet y = busyWith(Balls.FULL);
         Check.due("4: as many LINES as there can be", y.ball(), 37);
         Check.due("4: LINES", y.count(9), 37);
+        y.ball();
+        for (int what = 0; what <= 10; what++) {
+            Check.due("4: nothing of the fullest ball is left", y.count(what), 0);
+        }
         HoopCabinet z = busyWith(HEAD + "\n".repeat(1000 - HEAD.length()));
         Check.due("4: a tape of 1,000 bytes", z.ball(), 1);
         Check.due("4: the tape's end is the text's", busyWith(" ".repeat(1000 - HEAD.length()) + HEAD).ball(), 1);
